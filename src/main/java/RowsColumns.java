@@ -892,8 +892,12 @@ public final class RowsColumns {
 
         void become(Days other) {
             many = other.many;
-            System.arraycopy(other.acts, 0, acts, 0, MOST_DAYS);
-            System.arraycopy(other.codes, 0, codes, 0, MOST_DAYS * MOST_ACTS);
+            for (int d = 0; d < acts.length && d < other.acts.length; d++) {
+                acts[d] = other.acts[d];
+            }
+            for (int place = 0; place < codes.length && place < other.codes.length; place++) {
+                codes[place] = other.codes[place];
+            }
         }
 
         void begin() {

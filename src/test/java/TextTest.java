@@ -143,6 +143,17 @@ public final class TextTest {
         is("5 at first", new RowsColumns().fault(), 0);
         refused(",", 0, 1);
         refused("cloth d;A", 8, 1);
+        refused(".", 0, 1);
+        refused("cloth d.", 7, 1);
+        refused("zebra", 0, 2);
+        refused("cloth dz;", 6, 2);
+        refused("aloth d;", 0, 2);
+        refused("cloti d;", 0, 2);
+        refused("cattern d;", 0, 2);
+        refused("bay row 1;", 0, 2);
+        refused("day now 1;", 4, 2);
+        refused("day volumn 1;", 4, 2);
+        refused("day plant 1;", 4, 2);
         refused("cloth d; pattern l;\u00e9", 19, 1);
         refused("cloth d\n;", 7, 1);
         refused("cloth d`;", 7, 1);
@@ -259,6 +270,23 @@ public final class TextTest {
         is("7 none at first", new RowsColumns().day(0, -1), BAD);
     }
 
+    private static void promise7full() {
+        StringBuilder text = new StringBuilder();
+        for (int d = 0; d < 12; d++) {
+            text.append("day row").append(d % 4).append("column").append((d + 1) % 4);
+            text.append("slant").append(d % 7).append(';');
+        }
+        RowsColumns x = Due.told(text.toString());
+        is("7 days", x.rule(3), 12);
+        for (int d = 0; d < 12; d++) {
+            is("7 acts of " + d, x.day(d, -1), 3);
+            is("7 row of " + d, x.day(d, 0), d % 4);
+            is("7 column of " + d, x.day(d, 1), 20 + (d + 1) % 4);
+            is("7 slant of " + d, x.day(d, 2), 40 + d % 7);
+        }
+        is("7 no 13th day", x.day(12, 0), BAD);
+    }
+
     public static void main(String[] args) {
         promise1();
         promise2();
@@ -268,6 +296,7 @@ public final class TextTest {
         promise5();
         promise6();
         promise7();
+        promise7full();
         DUE.close();
     }
 }
