@@ -1,10 +1,16 @@
+import java.lang.reflect.InvocationTargetException;
+import java.lang.reflect.Method;
+import java.lang.reflect.Modifier;
 import java.nio.charset.StandardCharsets;
+import java.util.Map;
+import java.util.TreeMap;
 
 /** What the tests share: answers compared with those that are due, and a text put on the tape. */
 final class Due {
     private final String test;
     private int wrong = 0;
     private int asked = 0;
+    private String sentence = "";
 
     Due(String test) {
         this.test = test;
@@ -15,7 +21,7 @@ final class Due {
         if (got != want) {
             wrong++;
             if (wrong <= 40) {
-                System.out.println(test + ": " + call + " answered " + got + ", due is " + want);
+                System.out.println(test + ": " + sentence + call + " answered " + got + ", due is " + want);
             }
         }
     }
@@ -29,6 +35,32 @@ final class Due {
         if (wrong != 0) {
             System.exit(1);
         }
+    }
+
+    /** Calls every static method of a class that takes nothing and is private: none can be forgotten. */
+    void every(Class<?> tests) {
+        Map<String, Method> all = new TreeMap<>();
+        for (Method m : tests.getDeclaredMethods()) {
+            if (Modifier.isPrivate(m.getModifiers()) && !m.isSynthetic() && m.getParameterCount() == 0
+                && m.getReturnType() == void.class) {
+                all.put(m.getName(), m);
+            }
+        }
+        for (Method m : all.values()) {
+            sentence = m.getName() + ": ";
+            int before = asked;
+            try {
+                m.setAccessible(true);
+                m.invoke(null);
+            } catch (InvocationTargetException thrown) {
+                is("what was thrown, " + thrown.getCause(), 1, 0);
+            } catch (IllegalAccessException closed) {
+                throw new IllegalStateException(closed);
+            }
+            is("whether anything was asked", asked > before ? 1 : 0, 1);
+        }
+        sentence = "";
+        is("whether there are tests", all.isEmpty() ? 0 : 1, 1);
     }
 
     static byte[] bytesOf(String text) {
@@ -65,6 +97,37 @@ final class Due {
             throw new IllegalStateException("a test's own text is refused: " + text);
         }
         return x;
+    }
+
+    /** The rows of a set as a text tells them, a blank ahead of each. */
+    static String rows(int high, int wide, long set) {
+        StringBuilder text = new StringBuilder();
+        for (int r = 0; r < high; r++) {
+            text.append(' ');
+            for (int c = 0; c < wide; c++) {
+                text.append((set >>> 8 * r + c & 1) != 0 ? 'd' : 'l');
+            }
+        }
+        return text.toString();
+    }
+
+    /** All squares of a size. */
+    static long all(int high, int wide) {
+        long set = 0;
+        for (int r = 0; r < high; r++) {
+            for (int c = 0; c < wide; c++) {
+                set |= 1L << 8 * r + c;
+            }
+        }
+        return set;
+    }
+
+    static RowsColumns cloth(int high, int wide, long set) {
+        return told("cloth" + rows(high, wide, set) + ";");
+    }
+
+    static RowsColumns wished(int high, int wide, long set, long pattern) {
+        return told("cloth" + rows(high, wide, set) + "; pattern" + rows(high, wide, pattern) + ";");
     }
 
     /** The set of rows that are written as in a text. */
