@@ -517,6 +517,18 @@ public final class BoundsTextTest {
         refused("patter d;", 0, 2);
     }
 
+    /** Each letter of a NAME counts: with any one unlike it is another one. */
+    private static void fault2ANameOneLetterUnlike() {
+        String[] lines = {"cloth", "pattern", "day", "row", "column", "slant"};
+        for (String name : lines) {
+            String ahead = name.equals("row") || name.equals("column") || name.equals("slant") ? "day " : "";
+            for (int i = 0; i < name.length(); i++) {
+                char other = name.charAt(i) == 'z' ? 'y' : (char) (name.charAt(i) + 1);
+                refused(ahead + name.substring(0, i) + other + name.substring(i + 1) + " 1;", ahead.length(), 2);
+            }
+        }
+    }
+
     private static void fault2ANameThatIsNoRow() {
         refused("cloth dm;", 6, 2);
         refused("cloth d c;", 8, 2);

@@ -68,10 +68,15 @@ public final class DifferTest {
         return b;
     }
 
+    /** The least and the greatest more often than the others. */
+    private int side(int most) {
+        return below(5) == 0 ? 1 : below(5) == 0 ? most : 1 + below(most);
+    }
+
     /** A text that is mostly taken. */
     private String goodText() {
         int most = small ? 4 : 8;
-        int high = 1 + below(most), wide = 1 + below(most);
+        int high = side(most), wide = side(most);
         boolean[][] cloth = anyCloth(high, wide);
         StringBuilder text = new StringBuilder();
         String[] kinds = {"row", "column", "slant"};
@@ -80,9 +85,10 @@ public final class DifferTest {
         if (below(5) != 0) {
             text.append(" pattern").append(rows(nearTo(cloth))).append(" ; ");
         }
-        for (int d = below(4); d > 0; d--) {
+        int lastDay = below(6) == 0 ? 11 + below(3) : below(4);
+        for (int d = lastDay; d > 0; d--) {
             text.append("day");
-            for (int i = 1 + below(3); i > 0; i--) {
+            for (int i = lastDay > 4 ? 1 : 1 + below(3); i > 0; i--) {
                 int kind = below(3);
                 text.append(' ').append(kinds[kind]).append(flip() ? " " : "").append(below(many[kind]));
             }

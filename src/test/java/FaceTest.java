@@ -24,6 +24,7 @@ public final class FaceTest {
     private static final String FORBIDDEN = "throw|throws|try|catch|finally|synchronized|assert|import|package|protected"
         + "|Exception|Throwable|Error|Object|System\\.(?!arraycopy)\\w+|Random|\\w+Exact";
     private static final String FORBIDDEN_SIGNS = "->|::|\"\\s*\\+|\\+\\s*\"";
+    private static final Set<String> LISTED = Set.of("Integer.bitCount", "Long.bitCount", "Math.min", "Math.max");
     private static final int LONGEST_METHOD = 60;
 
     private final Due due = new Due("FaceTest");
@@ -67,12 +68,9 @@ public final class FaceTest {
         for (Class<?> inner : RowsColumns.class.getDeclaredClasses()) {
             due.is("static: " + inner, Modifier.isStatic(inner.getModifiers()) ? 1 : 0, 1);
             due.is("not public: " + inner, Modifier.isPublic(inner.getModifiers()) ? 1 : 0, 0);
-            int own = 0;
-            for (Field f : inner.getDeclaredFields()) {
-                own += Modifier.isStatic(f.getModifiers()) ? 0 : 1;
-            }
-            due.is("twenty fields at most: " + inner, own <= 20 ? 1 : 0, 1);
+            sizes(inner);
         }
+        sizes(RowsColumns.class);
         due.is("twelve classes at most", RowsColumns.class.getDeclaredClasses().length < 12 ? 1 : 0, 1);
     }
 
@@ -84,6 +82,34 @@ public final class FaceTest {
         }
         for (int i = 0; i < source.length(); i++) {
             due.is("sign " + (int) source.charAt(i), source.charAt(i) < 128 ? 1 : 0, 1);
+        }
+    }
+
+    /** What of the library is named by a class is listed; what a run makes is made in constructors. */
+    private void library(String source) {
+        String bare = source.replaceAll("(?s)/\\*.*?\\*/", "").replaceAll("//[^\n]*", "");
+        Matcher named = Pattern.compile("(?<![\\w.])(Integer|Long|Math|System|Arrays|String|Character|Boolean)\\.(\\w+)").matcher(bare);
+        while (named.find()) {
+            due.is("of the library: " + named.group(), LISTED.contains(named.group()) ? 1 : 0, 1);
+        }
+        for (String line : bare.split("\n")) {
+            boolean field = line.matches(" +(private )?(static )?final .* = new .*;");
+            boolean own = line.equals("                all[k] = new Sheet();");
+            due.is("made by a call: " + line, line.contains("new ") && !field && !own ? 1 : 0, 0);
+        }
+    }
+
+    private void sizes(Class<?> all) {
+        int own = 0;
+        for (Field f : all.getDeclaredFields()) {
+            int m = f.getModifiers();
+            own += Modifier.isStatic(m) ? 0 : 1;
+            due.is("static, so final: " + f, Modifier.isStatic(m) && !Modifier.isFinal(m) ? 1 : 0, 0);
+        }
+        due.is("twenty fields at most: " + all, own <= 20 ? 1 : 0, 1);
+        for (Method m : all.getDeclaredMethods()) {
+            due.is("seven parameters at most: " + m, m.getParameterCount() <= 7 ? 1 : 0, 1);
+            due.is("no " + m, Set.of("equals", "hashCode", "toString").contains(m.getName()) ? 1 : 0, 0);
         }
     }
 
@@ -109,6 +135,7 @@ public final class FaceTest {
         test.face();
         test.fields();
         test.words(source);
+        test.library(source);
         test.methods(source);
         test.due.close();
     }
