@@ -8,23 +8,11 @@ public final class BoundsClothTest {
     private static final int[] FAR = {LEAST, MOST, -8, 8, 64, 256, -256, 1 << 16, 1 << 28, 1 << 30};
     private static final Due DUE = new Due("BoundsClothTest");
 
-    private interface OfSize {
-        void test(int high, int wide);
-    }
-
     private BoundsClothTest() {
     }
 
     private static void is(String call, long got, long want) {
         DUE.is(call, got, want);
-    }
-
-    private static void everySize(OfSize test) {
-        for (int high = 1; high <= 8; high++) {
-            for (int wide = 1; wide <= 8; wide++) {
-                test.test(high, wide);
-            }
-        }
     }
 
     private static long row(int wide, int r) {
@@ -82,7 +70,7 @@ public final class BoundsClothTest {
     // ---- square, paint, wish
 
     private static void aSquareThereIs() {
-        everySize((high, wide) -> {
+        Due.everySize((high, wide) -> {
             RowsColumns x = Due.cloth(high, wide, 1L << 8 * (high - 1) + wide - 1);
             is("last of " + high + wide, x.square(high - 1, wide - 1), 1);
             is("first of " + high + wide, x.square(0, 0), high * wide == 1 ? 1 : 0);
@@ -90,7 +78,7 @@ public final class BoundsClothTest {
     }
 
     private static void aSquareThereIsNot() {
-        everySize((high, wide) -> {
+        Due.everySize((high, wide) -> {
             RowsColumns x = Due.cloth(high, wide, Due.all(high, wide));
             is("below of " + high + wide, x.square(high, wide - 1), BAD);
             is("beside of " + high + wide, x.square(high - 1, wide), BAD);
@@ -109,7 +97,7 @@ public final class BoundsClothTest {
     }
 
     private static void paintOfASquareThereIs() {
-        everySize((high, wide) -> {
+        Due.everySize((high, wide) -> {
             RowsColumns x = Due.cloth(high, wide, 0);
             long last = 1L << 8 * (high - 1) + wide - 1;
             is("dark " + high + wide, x.paint(high - 1, wide - 1, true), 0);
@@ -124,7 +112,7 @@ public final class BoundsClothTest {
     }
 
     private static void paintOfASquareThereIsNot() {
-        everySize((high, wide) -> {
+        Due.everySize((high, wide) -> {
             RowsColumns x = Due.cloth(high, wide, 0);
             is("below of " + high + wide, x.paint(high, 0, true), BAD);
             is("beside of " + high + wide, x.paint(0, wide, true), BAD);
@@ -150,7 +138,7 @@ public final class BoundsClothTest {
     }
 
     private static void wishOfASquareThereIs() {
-        everySize((high, wide) -> {
+        Due.everySize((high, wide) -> {
             RowsColumns x = Due.wished(high, wide, 0, 0);
             long last = 1L << 8 * (high - 1) + wide - 1;
             is("dark " + high + wide, x.wish(high - 1, wide - 1, true), 0);
@@ -163,7 +151,7 @@ public final class BoundsClothTest {
     }
 
     private static void wishOfASquareThereIsNot() {
-        everySize((high, wide) -> {
+        Due.everySize((high, wide) -> {
             RowsColumns x = Due.wished(high, wide, 0, 0);
             is("below of " + high + wide, x.wish(high, 0, true), BAD);
             is("beside of " + high + wide, x.wish(0, wide, true), BAD);
@@ -191,7 +179,7 @@ public final class BoundsClothTest {
     // ---- act
 
     private static void rowsFrom0ToTheLast() {
-        everySize((high, wide) -> {
+        Due.everySize((high, wide) -> {
             for (int r = 0; r < high; r++) {
                 RowsColumns x = Due.cloth(high, wide, 0);
                 is("row " + r + " of " + high + wide, x.act(0, r), wide);
@@ -202,7 +190,7 @@ public final class BoundsClothTest {
     }
 
     private static void columnsFrom0ToTheLast() {
-        everySize((high, wide) -> {
+        Due.everySize((high, wide) -> {
             for (int c = 0; c < wide; c++) {
                 RowsColumns x = Due.cloth(high, wide, 0);
                 is("column " + c + " of " + high + wide, x.act(1, c), high);
@@ -213,7 +201,7 @@ public final class BoundsClothTest {
     }
 
     private static void slantsFrom0ToHighAndWideLess2() {
-        everySize((high, wide) -> {
+        Due.everySize((high, wide) -> {
             for (int d = 0; d <= high + wide - 2; d++) {
                 RowsColumns x = Due.cloth(high, wide, 0);
                 long squares = slant(high, wide, d);
@@ -225,7 +213,7 @@ public final class BoundsClothTest {
     }
 
     private static void linesThereAreNot() {
-        everySize((high, wide) -> {
+        Due.everySize((high, wide) -> {
             RowsColumns x = Due.cloth(high, wide, 0);
             is("row of " + high + wide, x.act(0, high), BAD);
             is("column of " + high + wide, x.act(1, wide), BAD);
@@ -268,7 +256,7 @@ public final class BoundsClothTest {
     // ---- turn
 
     private static void turnNothing() {
-        everySize((high, wide) -> {
+        Due.everySize((high, wide) -> {
             RowsColumns x = Due.cloth(high, wide, 1);
             is("dark of " + high + wide, x.turn(0, 0), 1);
             is("cloth of " + high + wide, x.cloth(0), 1);
@@ -276,7 +264,7 @@ public final class BoundsClothTest {
     }
 
     private static void turnEveryRow() {
-        everySize((high, wide) -> {
+        Due.everySize((high, wide) -> {
             RowsColumns x = Due.cloth(high, wide, 0);
             is("dark of " + high + wide, x.turn((1 << high) - 1, 0), high * wide);
             is("cloth of " + high + wide, x.cloth(0), Due.all(high, wide));
@@ -284,7 +272,7 @@ public final class BoundsClothTest {
     }
 
     private static void turnEveryColumn() {
-        everySize((high, wide) -> {
+        Due.everySize((high, wide) -> {
             RowsColumns x = Due.cloth(high, wide, 0);
             is("dark of " + high + wide, x.turn(0, (1 << wide) - 1), high * wide);
             is("cloth of " + high + wide, x.cloth(0), Due.all(high, wide));
@@ -292,7 +280,7 @@ public final class BoundsClothTest {
     }
 
     private static void turnEveryRowAndColumn() {
-        everySize((high, wide) -> {
+        Due.everySize((high, wide) -> {
             RowsColumns x = Due.cloth(high, wide, 1);
             is("dark of " + high + wide, x.turn((1 << high) - 1, (1 << wide) - 1), 1);
             is("cloth of " + high + wide, x.cloth(0), 1);
@@ -300,7 +288,7 @@ public final class BoundsClothTest {
     }
 
     private static void turnTheLastRowAndColumn() {
-        everySize((high, wide) -> {
+        Due.everySize((high, wide) -> {
             RowsColumns x = Due.cloth(high, wide, 0);
             is("dark of " + high + wide, x.turn(1 << high - 1, 1 << wide - 1), high + wide - 2);
             is("cloth of " + high + wide, x.cloth(0), row(wide, high - 1) ^ column(high, wide - 1));
@@ -308,7 +296,7 @@ public final class BoundsClothTest {
     }
 
     private static void turnRowsThereAreNot() {
-        everySize((high, wide) -> {
+        Due.everySize((high, wide) -> {
             RowsColumns x = Due.cloth(high, wide, 0);
             is("of " + high + wide, x.turn(1 << high, 0), BAD);
             is("and one there is of " + high + wide, x.turn((1 << high) + 1, 1), BAD);
@@ -317,7 +305,7 @@ public final class BoundsClothTest {
     }
 
     private static void turnColumnsThereAreNot() {
-        everySize((high, wide) -> {
+        Due.everySize((high, wide) -> {
             RowsColumns x = Due.cloth(high, wide, 0);
             is("of " + high + wide, x.turn(0, 1 << wide), BAD);
             is("and one there is of " + high + wide, x.turn(1, (1 << wide) + 1), BAD);

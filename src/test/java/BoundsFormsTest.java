@@ -6,30 +6,13 @@ public final class BoundsFormsTest {
     private static final int BAD = -1, STATE = -2, NONE = -4;
     private static final int LEAST = Integer.MIN_VALUE, MOST = Integer.MAX_VALUE;
     private static final int[] FAR = {LEAST, MOST, -9, 9, 64, 256, -256, 1 << 16, 1 << 28, 1 << 30};
-    private static final long SOME = 0x9d27c63a51e80f4bL;
     private static final Due DUE = new Due("BoundsFormsTest");
-
-    private interface OfSize {
-        void test(int high, int wide);
-    }
 
     private BoundsFormsTest() {
     }
 
     private static void is(String call, long got, long want) {
         DUE.is(call, got, want);
-    }
-
-    private static void everySize(OfSize test) {
-        for (int high = 1; high <= 8; high++) {
-            for (int wide = 1; wide <= 8; wide++) {
-                test.test(high, wide);
-            }
-        }
-    }
-
-    private static long some(int high, int wide) {
-        return SOME & Due.all(high, wide);
     }
 
     private static long last(int high, int wide) {
@@ -63,8 +46,8 @@ public final class BoundsFormsTest {
     }
 
     private static void inAFormRow0AndColumn0AreLight() {
-        everySize((high, wide) -> {
-            RowsColumns x = Due.wished(high, wide, some(high, wide), Due.all(high, wide) ^ some(high, wide));
+        Due.everySize((high, wide) -> {
+            RowsColumns x = Due.wished(high, wide, Due.some(high, wide), Due.all(high, wide) ^ Due.some(high, wide));
             long border = 0xFFL | 0x0101010101010101L | ~Due.all(high, wide);
             is("of " + high + wide, x.form(0) & border, 0);
             is("of the pattern " + high + wide, x.form(1) & border, 0);
@@ -72,23 +55,23 @@ public final class BoundsFormsTest {
     }
 
     private static void aSetBecomesItsForm() {
-        everySize((high, wide) -> {
-            RowsColumns x = Due.cloth(high, wide, some(high, wide));
-            is("of " + high + wide, Due.wished(high, wide, some(high, wide), x.form(0)).nearest(0), 0);
-            is("the cloth is as it was " + high + wide, x.cloth(0), some(high, wide));
+        Due.everySize((high, wide) -> {
+            RowsColumns x = Due.cloth(high, wide, Due.some(high, wide));
+            is("of " + high + wide, Due.wished(high, wide, Due.some(high, wide), x.form(0)).nearest(0), 0);
+            is("the cloth is as it was " + high + wide, x.cloth(0), Due.some(high, wide));
         });
     }
 
     private static void whatHasALightRow0AndColumn0IsItsOwnForm() {
-        everySize((high, wide) -> {
-            long set = some(high, wide) & ~0xFFL & ~0x0101010101010101L;
+        Due.everySize((high, wide) -> {
+            long set = Due.some(high, wide) & ~0xFFL & ~0x0101010101010101L;
             is("of " + high + wide, Due.cloth(high, wide, set).form(0), set);
         });
     }
 
     private static void aFormIsAlikeForClothsThatBecomeOneAnother() {
-        everySize((high, wide) -> {
-            RowsColumns x = Due.cloth(high, wide, some(high, wide));
+        Due.everySize((high, wide) -> {
+            RowsColumns x = Due.cloth(high, wide, Due.some(high, wide));
             long form = x.form(0);
             for (int i = 0; i < 12; i++) {
                 x.turn(i * 37 & (1 << high) - 1, i * 91 & (1 << wide) - 1);
@@ -98,8 +81,8 @@ public final class BoundsFormsTest {
     }
 
     private static void aFormIsAnotherForClothsThatDoNot() {
-        everySize((high, wide) -> {
-            RowsColumns x = Due.cloth(high, wide, some(high, wide));
+        Due.everySize((high, wide) -> {
+            RowsColumns x = Due.cloth(high, wide, Due.some(high, wide));
             long form = x.form(0);
             x.paint(high - 1, wide - 1, x.square(high - 1, wide - 1) == 0);
             is("of " + high + wide, x.form(0) == form ? 1 : 0, high == 1 || wide == 1 ? 1 : 0);
@@ -112,7 +95,7 @@ public final class BoundsFormsTest {
     }
 
     private static void formsOfEverySize() {
-        everySize((high, wide) -> {
+        Due.everySize((high, wide) -> {
             long many = 1;
             for (int i = 0; i < (high - 1) * (wide - 1); i++) {
                 many *= 2;
@@ -169,8 +152,8 @@ public final class BoundsFormsTest {
     }
 
     private static void alikeOfOneSquareUnlike() {
-        everySize((high, wide) -> {
-            RowsColumns x = Due.cloth(high, wide, some(high, wide));
+        Due.everySize((high, wide) -> {
+            RowsColumns x = Due.cloth(high, wide, Due.some(high, wide));
             x.keep(0);
             x.turn((1 << high) - 1 & 0x55, (1 << wide) - 1 & 0x2b);
             is("turned " + high + wide, x.alike(0), 1);
@@ -217,13 +200,13 @@ public final class BoundsFormsTest {
     }
 
     private static void planOfNoActs() {
-        everySize((high, wide) ->
-            plan("the same " + high + wide, Due.wished(high, wide, some(high, wide), some(high, wide)), 0, 0));
+        Due.everySize((high, wide) ->
+            plan("the same " + high + wide, Due.wished(high, wide, Due.some(high, wide), Due.some(high, wide)), 0, 0));
     }
 
     private static void planOfOneRow() {
-        everySize((high, wide) -> {
-            RowsColumns x = Due.wished(high, wide, some(high, wide), some(high, wide));
+        Due.everySize((high, wide) -> {
+            RowsColumns x = Due.wished(high, wide, Due.some(high, wide), Due.some(high, wide));
             x.act(0, high - 1);
             boolean otherWay = high == 1 && wide == 1;
             plan("the last row " + high + wide, x, otherWay ? 0 : 1 << high - 1, otherWay ? 1 : 0);
@@ -231,8 +214,8 @@ public final class BoundsFormsTest {
     }
 
     private static void planOfAllIsOfTheFewer() {
-        everySize((high, wide) -> {
-            RowsColumns x = Due.wished(high, wide, some(high, wide), some(high, wide) ^ Due.all(high, wide));
+        Due.everySize((high, wide) -> {
+            RowsColumns x = Due.wished(high, wide, Due.some(high, wide), Due.some(high, wide) ^ Due.all(high, wide));
             boolean rows = high < wide;
             plan("all " + high + wide, x, rows ? (1 << high) - 1 : 0, rows ? 0 : (1 << wide) - 1);
         });
@@ -240,7 +223,7 @@ public final class BoundsFormsTest {
 
     /** Half of the rows, half of the columns: both ways have as many. */
     private static void planOfAsManyHasTheLesserRows() {
-        everySize((high, wide) -> {
+        Due.everySize((high, wide) -> {
             if ((high + wide) % 2 == 0) {
                 int rows = (1 << high / 2) - 1;
                 int columns = (1 << (wide + 1) / 2) - 1;
@@ -316,14 +299,14 @@ public final class BoundsFormsTest {
     }
 
     private static void nearestThatIsThePattern() {
-        everySize((high, wide) ->
-            nearest("the same " + high + wide, Due.wished(high, wide, some(high, wide), some(high, wide)), 0, 0, 0));
+        Due.everySize((high, wide) ->
+            nearest("the same " + high + wide, Due.wished(high, wide, Due.some(high, wide), Due.some(high, wide)), 0, 0, 0));
     }
 
     /** Not the fewest acts: the least rows first, so that all columns are turned even where rows are fewer. */
     private static void nearestHasTheLeastRows() {
-        everySize((high, wide) -> {
-            RowsColumns x = Due.wished(high, wide, some(high, wide), some(high, wide) ^ Due.all(high, wide));
+        Due.everySize((high, wide) -> {
+            RowsColumns x = Due.wished(high, wide, Due.some(high, wide), Due.some(high, wide) ^ Due.all(high, wide));
             nearest("all " + high + wide, x, 0, 0, (1 << wide) - 1);
         });
     }
@@ -339,7 +322,7 @@ public final class BoundsFormsTest {
     }
 
     private static void nearestOfTheLastSquare() {
-        everySize((high, wide) -> {
+        Due.everySize((high, wide) -> {
             RowsColumns x = Due.wished(high, wide, 0, last(high, wide));
             if (high > 1 && wide > 1) {
                 nearest("the last square " + high + wide, x, 1, 0, 0);
@@ -353,7 +336,7 @@ public final class BoundsFormsTest {
     }
 
     private static void nearestOfTheLastLine() {
-        everySize((high, wide) -> {
+        Due.everySize((high, wide) -> {
             RowsColumns x = Due.wished(high, wide, 0, 0);
             x.act(1, wide - 1);
             nearest("the last column " + high + wide, x, 0, 0, 1 << wide - 1);
@@ -397,7 +380,7 @@ public final class BoundsFormsTest {
     }
 
     private static void lightestOfALightAndADarkCloth() {
-        everySize((high, wide) -> {
+        Due.everySize((high, wide) -> {
             RowsColumns x = Due.cloth(high, wide, 0);
             is("light " + high + wide, x.lightest(0) + x.lightest(1) + x.lightest(2), 0);
             x = Due.cloth(high, wide, Due.all(high, wide));
@@ -408,7 +391,7 @@ public final class BoundsFormsTest {
     }
 
     private static void lightestOfOneDarkSquare() {
-        everySize((high, wide) -> {
+        Due.everySize((high, wide) -> {
             RowsColumns x = Due.cloth(high, wide, last(high, wide));
             is("of " + high + wide, x.lightest(0), high > 1 && wide > 1 ? 1 : 0);
             is("it is as it was " + high + wide, x.cloth(0), last(high, wide));
@@ -444,8 +427,8 @@ public final class BoundsFormsTest {
     }
 
     private static void blindFor0Days() {
-        everySize((high, wide) -> {
-            RowsColumns x = Due.wished(high, wide, some(high, wide), some(high, wide));
+        Due.everySize((high, wide) -> {
+            RowsColumns x = Due.wished(high, wide, Due.some(high, wide), Due.some(high, wide));
             is("days " + high + wide, x.blind(0), 0);
             is("unlike " + high + wide, x.blind(1), 0);
         });
@@ -553,8 +536,8 @@ public final class BoundsFormsTest {
     }
 
     private static void slantedOf10TogetherAtMost() {
-        everySize((high, wide) -> {
-            RowsColumns x = Due.wished(high, wide, some(high, wide), some(high, wide));
+        Due.everySize((high, wide) -> {
+            RowsColumns x = Due.wished(high, wide, Due.some(high, wide), Due.some(high, wide));
             for (int what = 0; what < 4; what++) {
                 is("slanted(" + what + ") of " + high + wide, x.slanted(what), high + wide > 10 ? STATE : 0);
             }
@@ -564,7 +547,7 @@ public final class BoundsFormsTest {
 
     /** The last square is the last slant; a column that is as good has greater bits of the columns. */
     private static void slantedTheLastSlant() {
-        everySize((high, wide) -> {
+        Due.everySize((high, wide) -> {
             if (high + wide <= 10) {
                 RowsColumns x = Due.wished(high, wide, 0, last(high, wide));
                 slanted("the last square " + high + wide, x, 0, 0, 1 << high + wide - 2);
@@ -573,7 +556,7 @@ public final class BoundsFormsTest {
     }
 
     private static void slantedTheFirstSlant() {
-        everySize((high, wide) -> {
+        Due.everySize((high, wide) -> {
             if (high + wide <= 10) {
                 slanted("the first square " + high + wide, Due.wished(high, wide, 0, 1), 0, 0, 1);
             }
@@ -619,8 +602,8 @@ public final class BoundsFormsTest {
 
     /** With slants three ways are double: all rows, all columns, all slants; and every second one of each. */
     private static void powerOfEverySize() {
-        everySize((high, wide) -> {
-            RowsColumns x = Due.cloth(high, wide, some(high, wide));
+        Due.everySize((high, wide) -> {
+            RowsColumns x = Due.cloth(high, wide, Due.some(high, wide));
             is("rows, columns of " + high + wide, x.power(0), high + wide - 1);
             boolean line = high == 1 || wide == 1;
             is("with slants of " + high + wide, x.power(1), line ? high * wide : 2 * (high + wide) - 4);
@@ -769,8 +752,8 @@ public final class BoundsFormsTest {
     }
 
     private static void turnedTheFewerOfBoth() {
-        everySize((high, wide) -> {
-            RowsColumns x = Due.cloth(high, wide, some(high, wide));
+        Due.everySize((high, wide) -> {
+            RowsColumns x = Due.cloth(high, wide, Due.some(high, wide));
             x.keep(0);
             turned("none " + high + wide, x, 0, 0, 0);
             x.turn((1 << high) - 1, 0);
@@ -814,8 +797,8 @@ public final class BoundsFormsTest {
 
     /** How many squares of a column (row) are one another's when it has two alone, and the first of them. */
     private static void spoiltOfEverySize() {
-        everySize((high, wide) -> {
-            RowsColumns x = Due.wished(high, wide, some(high, wide), some(high, wide) ^ last(high, wide));
+        Due.everySize((high, wide) -> {
+            RowsColumns x = Due.wished(high, wide, Due.some(high, wide), Due.some(high, wide) ^ last(high, wide));
             x.turn(1, (1 << wide) - 1);
             boolean line = high == 1 || wide == 1;
             int many = line ? high * wide : (high == 2 ? 2 : 1) * (wide == 2 ? 2 : 1);
@@ -828,7 +811,7 @@ public final class BoundsFormsTest {
 
     private static void spoiltEverySquareOfTheGreatest() {
         for (int s = 0; s < 64; s++) {
-            RowsColumns x = Due.wished(8, 8, SOME, SOME ^ 1L << s);
+            RowsColumns x = Due.wished(8, 8, Due.SOME, Due.SOME ^ 1L << s);
             is("how many of " + s, x.spoilt(0), 1);
             is("the first of " + s, x.spoilt(1), s);
         }
@@ -877,8 +860,8 @@ public final class BoundsFormsTest {
 
     /** The cloth is the pattern: pairs that are a line of two, or lie in one line that is the whole cloth. */
     private static void bothOfEverySize() {
-        everySize((high, wide) -> {
-            RowsColumns x = Due.wished(high, wide, some(high, wide), some(high, wide));
+        Due.everySize((high, wide) -> {
+            RowsColumns x = Due.wished(high, wide, Due.some(high, wide), Due.some(high, wide));
             int squares = high * wide;
             boolean any = high == 1 || wide == 1 || high == 2 && wide == 2;
             int many = any ? squares * (squares - 1) / 2 : high == 2 ? wide : wide == 2 ? high : 0;
@@ -891,7 +874,7 @@ public final class BoundsFormsTest {
     private static void bothEveryPairOfTheGreatest() {
         for (int s = 0; s < 64; s += 7) {
             for (int t = s + 1; t < 64; t += 3) {
-                RowsColumns x = Due.wished(8, 8, SOME, SOME ^ 1L << s ^ 1L << t);
+                RowsColumns x = Due.wished(8, 8, Due.SOME, Due.SOME ^ 1L << s ^ 1L << t);
                 is("how many of " + s + " " + t, x.both(0), 1);
                 is("the first of " + s + " " + t, x.both(1), 64 * s + t);
             }

@@ -6,30 +6,13 @@ public final class BoundsShapesTest {
     private static final int BAD = -1, STATE = -2, FULL = -3;
     private static final int LEAST = Integer.MIN_VALUE, MOST = Integer.MAX_VALUE;
     private static final int[] FAR = {LEAST, MOST, -9, 9, 64, 256, -256, 1 << 16, 1 << 28, 1 << 30};
-    private static final long SOME = 0x9d27c63a51e80f4bL;
     private static final Due DUE = new Due("BoundsShapesTest");
-
-    private interface OfSize {
-        void test(int high, int wide);
-    }
 
     private BoundsShapesTest() {
     }
 
     private static void is(String call, long got, long want) {
         DUE.is(call, got, want);
-    }
-
-    private static void everySize(OfSize test) {
-        for (int high = 1; high <= 8; high++) {
-            for (int wide = 1; wide <= 8; wide++) {
-                test.test(high, wide);
-            }
-        }
-    }
-
-    private static long some(int high, int wide) {
-        return SOME & Due.all(high, wide);
     }
 
     private static void size(String of, RowsColumns x, int high, int wide) {
@@ -45,8 +28,8 @@ public final class BoundsShapesTest {
     }
 
     private static RowsColumns told(int high, int wide) {
-        return Due.told("cloth" + Due.rows(high, wide, some(high, wide)) + "; pattern"
-            + Due.rows(high, wide, Due.all(high, wide) ^ some(high, wide)) + "; day row 0; day column 0;");
+        return Due.told("cloth" + Due.rows(high, wide, Due.some(high, wide)) + "; pattern"
+            + Due.rows(high, wide, Due.all(high, wide) ^ Due.some(high, wide)) + "; day row 0; day column 0;");
     }
 
     // ---- rotate
@@ -63,12 +46,12 @@ public final class BoundsShapesTest {
     }
 
     private static void rotateBy0IsAsItIs() {
-        everySize((high, wide) -> {
+        Due.everySize((high, wide) -> {
             RowsColumns x = told(high, wide);
             is("rows of " + high + wide, x.rotate(0), high);
             size("of " + high + wide, x, high, wide);
-            is("cloth of " + high + wide, x.cloth(0), some(high, wide));
-            is("pattern of " + high + wide, x.cloth(1), Due.all(high, wide) ^ some(high, wide));
+            is("cloth of " + high + wide, x.cloth(0), Due.some(high, wide));
+            is("pattern of " + high + wide, x.cloth(1), Due.all(high, wide) ^ Due.some(high, wide));
         });
     }
 
@@ -81,7 +64,7 @@ public final class BoundsShapesTest {
     }
 
     private static void rotateByOddOnesTakesColumnsForRows() {
-        everySize((high, wide) -> {
+        Due.everySize((high, wide) -> {
             for (int t = 0; t < 8; t++) {
                 RowsColumns x = Due.cloth(high, wide, 0);
                 is("rows by " + t + " of " + high + wide, x.rotate(t), t % 2 == 0 ? high : wide);
@@ -100,15 +83,15 @@ public final class BoundsShapesTest {
     }
 
     private static void rotateTakesEachSquareToItsPlace() {
-        everySize((high, wide) -> {
+        Due.everySize((high, wide) -> {
             for (int t = 0; t < 8; t++) {
                 long due = 0;
                 for (int r = 0; r < high; r++) {
                     for (int c = 0; c < wide; c++) {
-                        due |= (some(high, wide) >>> 8 * r + c & 1) << comesTo(t, high, wide, r, c);
+                        due |= (Due.some(high, wide) >>> 8 * r + c & 1) << comesTo(t, high, wide, r, c);
                     }
                 }
-                RowsColumns x = Due.wished(high, wide, some(high, wide), some(high, wide));
+                RowsColumns x = Due.wished(high, wide, Due.some(high, wide), Due.some(high, wide));
                 x.rotate(t);
                 is("cloth by " + t + " of " + high + wide, x.cloth(0), due);
                 is("pattern by " + t + " of " + high + wide, x.cloth(1), due);
@@ -128,10 +111,10 @@ public final class BoundsShapesTest {
     private static void rotateIsUndone() {
         int[] back = {0, 3, 2, 1, 4, 5, 6, 7};
         for (int t = 0; t < 8; t++) {
-            RowsColumns x = Due.cloth(5, 7, some(5, 7));
+            RowsColumns x = Due.cloth(5, 7, Due.some(5, 7));
             x.rotate(t);
             x.rotate(back[t]);
-            is("by " + t, x.cloth(0), some(5, 7));
+            is("by " + t, x.cloth(0), Due.some(5, 7));
             size("by " + t, x, 5, 7);
         }
     }
@@ -159,29 +142,29 @@ public final class BoundsShapesTest {
     // ---- cut
 
     private static void cutAll() {
-        everySize((high, wide) -> {
+        Due.everySize((high, wide) -> {
             RowsColumns x = told(high, wide);
-            is("dark of " + high + wide, x.cut(0, high, 0, wide), Long.bitCount(some(high, wide)));
-            is("cloth of " + high + wide, x.cloth(0), some(high, wide));
+            is("dark of " + high + wide, x.cut(0, high, 0, wide), Long.bitCount(Due.some(high, wide)));
+            is("cloth of " + high + wide, x.cloth(0), Due.some(high, wide));
             size("of " + high + wide, x, high, wide);
             noPlans("of " + high + wide, x);
         });
     }
 
     private static void cutTheFirstSquare() {
-        everySize((high, wide) -> {
+        Due.everySize((high, wide) -> {
             RowsColumns x = told(high, wide);
-            is("dark of " + high + wide, x.cut(0, 1, 0, 1), SOME & 1);
-            is("cloth of " + high + wide, x.cloth(0), SOME & 1);
+            is("dark of " + high + wide, x.cut(0, 1, 0, 1), Due.SOME & 1);
+            is("cloth of " + high + wide, x.cloth(0), Due.SOME & 1);
             size("of " + high + wide, x, 1, 1);
             noPlans("of " + high + wide, x);
         });
     }
 
     private static void cutTheLastSquare() {
-        everySize((high, wide) -> {
+        Due.everySize((high, wide) -> {
             RowsColumns x = told(high, wide);
-            long due = SOME >>> 8 * (high - 1) + wide - 1 & 1;
+            long due = Due.SOME >>> 8 * (high - 1) + wide - 1 & 1;
             is("dark of " + high + wide, x.cut(high - 1, 1, wide - 1, 1), due);
             is("cloth of " + high + wide, x.cloth(0), due);
             size("of " + high + wide, x, 1, 1);
@@ -189,11 +172,11 @@ public final class BoundsShapesTest {
     }
 
     private static void cutEveryPartOfTheGreatest() {
-        everySize((rows, columns) -> {
+        Due.everySize((rows, columns) -> {
             int r = 8 - rows;
             int c = 8 - columns;
-            RowsColumns x = Due.cloth(8, 8, SOME);
-            long due = SOME >>> 8 * r + c & Due.all(rows, columns);
+            RowsColumns x = Due.cloth(8, 8, Due.SOME);
+            long due = Due.SOME >>> 8 * r + c & Due.all(rows, columns);
             is("dark of " + rows + columns, x.cut(r, rows, c, columns), Long.bitCount(due));
             is("cloth of " + rows + columns, x.cloth(0), due);
             size("of " + rows + columns, x, rows, columns);
@@ -201,7 +184,7 @@ public final class BoundsShapesTest {
     }
 
     private static void cutRowsThereAreNot() {
-        everySize((high, wide) -> {
+        Due.everySize((high, wide) -> {
             RowsColumns x = told(high, wide);
             is("from behind the last of " + high + wide, x.cut(high, 1, 0, 1), BAD);
             is("one too many of " + high + wide, x.cut(0, high + 1, 0, 1), BAD);
@@ -216,7 +199,7 @@ public final class BoundsShapesTest {
     }
 
     private static void cutColumnsThereAreNot() {
-        everySize((high, wide) -> {
+        Due.everySize((high, wide) -> {
             RowsColumns x = told(high, wide);
             is("from behind the last of " + high + wide, x.cut(0, 1, wide, 1), BAD);
             is("one too many of " + high + wide, x.cut(0, 1, 0, wide + 1), BAD);
@@ -257,7 +240,7 @@ public final class BoundsShapesTest {
     // ---- sew
 
     private static RowsColumns withImage(int high, int wide, int imageHigh, int imageWide) {
-        RowsColumns x = Due.cloth(Math.max(high, imageHigh), Math.max(wide, imageWide), SOME
+        RowsColumns x = Due.cloth(Math.max(high, imageHigh), Math.max(wide, imageWide), Due.SOME
             & Due.all(Math.max(high, imageHigh), Math.max(wide, imageWide)));
         x.keep(1);
         x.cut(0, imageHigh, 0, imageWide);
@@ -268,11 +251,11 @@ public final class BoundsShapesTest {
     }
 
     private static void sewToTheRightTo8AtMost() {
-        everySize((wide, imageWide) -> {
+        Due.everySize((wide, imageWide) -> {
             for (int high = 1; high <= 8; high += 7) {
                 RowsColumns x = withImage(high, wide, high, imageWide);
                 boolean full = wide + imageWide > 8;
-                long due = some(high, wide) | (full ? 0 : some(high, imageWide) << wide);
+                long due = Due.some(high, wide) | (full ? 0 : Due.some(high, imageWide) << wide);
                 is(wide + " and " + imageWide, x.sew(0, false), full ? FULL : Long.bitCount(due));
                 is("cloth of " + wide + " and " + imageWide, x.cloth(0), due);
                 size("of " + wide + " and " + imageWide, x, high, full ? wide : wide + imageWide);
@@ -281,11 +264,11 @@ public final class BoundsShapesTest {
     }
 
     private static void sewBelowTo8AtMost() {
-        everySize((high, imageHigh) -> {
+        Due.everySize((high, imageHigh) -> {
             for (int wide = 1; wide <= 8; wide += 7) {
                 RowsColumns x = withImage(high, wide, imageHigh, wide);
                 boolean full = high + imageHigh > 8;
-                long due = some(high, wide) | (full ? 0 : some(imageHigh, wide) << 8 * high);
+                long due = Due.some(high, wide) | (full ? 0 : Due.some(imageHigh, wide) << 8 * high);
                 is(high + " and " + imageHigh, x.sew(0, true), full ? FULL : Long.bitCount(due));
                 is("cloth of " + high + " and " + imageHigh, x.cloth(0), due);
                 size("of " + high + " and " + imageHigh, x, full ? high : high + imageHigh, wide);
@@ -294,7 +277,7 @@ public final class BoundsShapesTest {
     }
 
     private static void sewWhatIsNotAsHigh() {
-        everySize((high, imageHigh) -> {
+        Due.everySize((high, imageHigh) -> {
             if (high != imageHigh) {
                 is(high + " and " + imageHigh, withImage(high, 2, imageHigh, 2).sew(0, false), STATE);
             }
@@ -302,7 +285,7 @@ public final class BoundsShapesTest {
     }
 
     private static void sewWhatIsNotAsWide() {
-        everySize((wide, imageWide) -> {
+        Due.everySize((wide, imageWide) -> {
             if (wide != imageWide) {
                 is(wide + " and " + imageWide, withImage(2, wide, 2, imageWide).sew(0, true), STATE);
             }
@@ -335,7 +318,7 @@ public final class BoundsShapesTest {
     private static void sewTellsNoPatternAndNoDays() {
         RowsColumns x = told(2, 2);
         x.keep(0);
-        is("right", x.sew(0, false), 2 * Long.bitCount(some(2, 2)));
+        is("right", x.sew(0, false), 2 * Long.bitCount(Due.some(2, 2)));
         noPlans("to the right", x);
         x = told(2, 2);
         x.keep(0);
@@ -383,7 +366,7 @@ public final class BoundsShapesTest {
     }
 
     private static void nameHasNotMoreRowsThanColumns() {
-        everySize((high, wide) -> {
+        Due.everySize((high, wide) -> {
             RowsColumns x = Due.cloth(high, wide, 0);
             is("form of a light one " + high + wide, x.name(0), 0);
             is("its turning " + high + wide, x.name(1), high > wide ? 1 : 0);
@@ -391,13 +374,13 @@ public final class BoundsShapesTest {
     }
 
     private static void nameHasTheLeastForm() {
-        everySize((high, wide) -> {
-            RowsColumns x = Due.cloth(high, wide, some(high, wide));
+        Due.everySize((high, wide) -> {
+            RowsColumns x = Due.cloth(high, wide, Due.some(high, wide));
             long name = x.name(0);
             int turning = (int) x.name(1);
             boolean met = false;
             for (int t = 0; t < 8; t++) {
-                RowsColumns y = Due.cloth(high, wide, some(high, wide));
+                RowsColumns y = Due.cloth(high, wide, Due.some(high, wide));
                 y.rotate(t);
                 if (y.rule(0) <= y.rule(1)) {
                     is("is not above that of " + t + " of " + high + wide, y.form(0) >= name ? 1 : 0, 1);
@@ -432,7 +415,7 @@ public final class BoundsShapesTest {
         RowsColumns x = told(3, 2);
         x.name(0);
         x.name(1);
-        is("cloth", x.cloth(0), some(3, 2));
+        is("cloth", x.cloth(0), Due.some(3, 2));
         size("as it was", x, 3, 2);
         is("plans", x.rule(2) + x.rule(3), 3);
     }
@@ -458,8 +441,8 @@ public final class BoundsShapesTest {
     }
 
     private static void cousinsOfEverySizeAndTurning() {
-        everySize((high, wide) -> {
-            RowsColumns x = Due.cloth(high, wide, some(high, wide));
+        Due.everySize((high, wide) -> {
+            RowsColumns x = Due.cloth(high, wide, Due.some(high, wide));
             x.keep(0);
             for (int t = 0; t < 8; t++) {
                 x.rotate(t);
@@ -470,7 +453,7 @@ public final class BoundsShapesTest {
     }
 
     private static void cousinsAreOfOneSize() {
-        everySize((high, wide) -> {
+        Due.everySize((high, wide) -> {
             RowsColumns x = Due.cloth(8, 8, 0);
             x.cut(0, high, 0, wide);
             x.keep(0);
@@ -533,12 +516,12 @@ public final class BoundsShapesTest {
     }
 
     private static void keepHoldsItsSize() {
-        everySize((high, wide) -> {
-            RowsColumns x = Due.cloth(high, wide, some(high, wide));
+        Due.everySize((high, wide) -> {
+            RowsColumns x = Due.cloth(high, wide, Due.some(high, wide));
             x.keep(0);
             x.cut(0, 1, 0, 1);
-            is("dark of " + high + wide, x.back(0), Long.bitCount(some(high, wide)));
-            is("cloth of " + high + wide, x.cloth(0), some(high, wide));
+            is("dark of " + high + wide, x.back(0), Long.bitCount(Due.some(high, wide)));
+            is("cloth of " + high + wide, x.cloth(0), Due.some(high, wide));
             size("of " + high + wide, x, high, wide);
         });
     }
@@ -558,7 +541,7 @@ public final class BoundsShapesTest {
         RowsColumns x = told(2, 3);
         x.keep(0);
         is("plans", x.rule(2) + x.rule(3), 3);
-        is("cloth", x.cloth(0), some(2, 3));
+        is("cloth", x.cloth(0), Due.some(2, 3));
     }
 
     private static void backIsOf0And1() {
@@ -585,12 +568,12 @@ public final class BoundsShapesTest {
     }
 
     private static void backOfOneSizeKeepsPatternAndDays() {
-        everySize((high, wide) -> {
+        Due.everySize((high, wide) -> {
             RowsColumns x = told(high, wide);
             x.keep(0);
             x.turn(1, 0);
-            is("dark of " + high + wide, x.back(0), Long.bitCount(some(high, wide)));
-            is("pattern of " + high + wide, x.cloth(1), Due.all(high, wide) ^ some(high, wide));
+            is("dark of " + high + wide, x.back(0), Long.bitCount(Due.some(high, wide)));
+            is("pattern of " + high + wide, x.cloth(1), Due.all(high, wide) ^ Due.some(high, wide));
             is("plans of " + high + wide, x.rule(2) + x.rule(3), 3);
         });
     }
@@ -600,7 +583,7 @@ public final class BoundsShapesTest {
         x.keep(0);
         x.rotate(1);
         is("turned, it is there", x.rule(2), 1);
-        is("back", x.back(0), Long.bitCount(some(2, 3)));
+        is("back", x.back(0), Long.bitCount(Due.some(2, 3)));
         noPlans("of another height and width", x);
         size("of the image", x, 2, 3);
     }

@@ -7,6 +7,9 @@ import java.util.TreeMap;
 
 /** What the tests share: answers compared with those that are due, and a text put on the tape. */
 final class Due {
+    /** A set without an order of its own. */
+    static final long SOME = 0x9d27c63a51e80f4bL;
+
     private final String test;
     private int wrong = 0;
     private int asked = 0;
@@ -120,6 +123,23 @@ final class Due {
             }
         }
         return set;
+    }
+
+    /** That part of the set without order that has a place in a size. */
+    static long some(int high, int wide) {
+        return SOME & all(high, wide);
+    }
+
+    interface OfSize {
+        void test(int high, int wide);
+    }
+
+    static void everySize(OfSize test) {
+        for (int high = 1; high <= 8; high++) {
+            for (int wide = 1; wide <= 8; wide++) {
+                test.test(high, wide);
+            }
+        }
     }
 
     static RowsColumns cloth(int high, int wide, long set) {
